@@ -2,49 +2,21 @@ import java.util.function.IntSupplier;
 
 /** One method for each promise of the document, with answers worked out by hand. */
 public final class PromisesTest {
-    private static final int INDEX = 1_000_001;
-    private static final int ARGUMENT = 1_000_002;
+    private static final int INDEX = Answer.INDEX;
+    private static final int ARGUMENT = Answer.ARGUMENT;
 
     private static int wrong = 0;
 
     private static void due(String what, int want, IntSupplier call) {
-        int got;
-        try {
-            got = call.getAsInt();
-        } catch (IndexOutOfBoundsException e) {
-            got = e.getClass() == IndexOutOfBoundsException.class ? INDEX : 0xDEAD;
-        } catch (IllegalArgumentException e) {
-            got = e.getClass() == IllegalArgumentException.class ? ARGUMENT : 0xDEAD;
-        }
+        int got = call.getAsInt();
         if (got != want) {
             wrong++;
             System.out.println(what + " answered " + got + ", due is " + want);
         }
     }
 
-    private static int feed(GuideWords x, String text) {
-        int[] numbers = new int[5];
-        for (int k = 0; k < text.length(); k++) {
-            numbers[k / 4] |= (text.charAt(k) & 255) << (24 - 8 * (k % 4));
-        }
-        return x.feed(numbers[0], numbers[1], numbers[2], numbers[3], numbers[4]);
-    }
-
-    private static int entry(GuideWords x, String head, int... lines) {
-        feed(x, head);
-        for (int line : lines) {
-            x.push(line);
-        }
-        return x.entry(head.length());
-    }
-
-    private static int see(GuideWords x, String head, String meant) {
-        feed(x, head + meant);
-        return x.see(head.length(), meant.length());
-    }
-
     private static void promise1() {
-        GuideWords x = new GuideWords();
+        Book x = new Book();
         due("1 entries", 0, () -> x.count(0));
         due("1 all entries", 0, () -> x.count(1));
         due("1 pushed", 0, () -> x.count(2));
@@ -67,7 +39,7 @@ public final class PromisesTest {
         int[] first = {20, 2, 2, 10, 20};
         int[] low = {4, 1, 0, 0, 0};
         int[] high = {60, 4, 3, 1000, 1000};
-        GuideWords x = new GuideWords();
+        Book x = new Book();
         for (int what = 0; what < 5; what++) {
             int w = what;
             due("2 at first", first[w], () -> x.set(w, low[w]));
@@ -85,7 +57,7 @@ public final class PromisesTest {
     }
 
     private static void promise3() {
-        GuideWords x = new GuideWords();
+        Book x = new Book();
         due("3 none", ARGUMENT, () -> x.push(0));
         due("3 too many lines", ARGUMENT, () -> x.push(21));
         due("3 negative", ARGUMENT, () -> x.push(Integer.MIN_VALUE));
@@ -96,7 +68,7 @@ public final class PromisesTest {
         due("3 seventh", -1, () -> x.push(5));
         due("3 seventh, wrong", ARGUMENT, () -> x.push(21));
         due("3 six stay", 6, () -> x.count(2));
-        feed(x, "a");
+        x.feed("a");
         due("3 entry", 0, () -> x.entry(1));
         x.set(0, 60);
         x.set();
@@ -106,18 +78,18 @@ public final class PromisesTest {
     }
 
     private static void promise4() {
-        GuideWords x = new GuideWords();
-        due("4 first", 20, () -> feed(x, "abcdefghijklmnopqrst"));
-        due("4 second", 40, () -> feed(x, ""));
-        due("4 third", 60, () -> feed(x, ""));
-        due("4 fourth", -1, () -> feed(x, "a"));
+        Book x = new Book();
+        due("4 first", 20, () -> x.feed("abcdefghijklmnopqrst"));
+        due("4 second", 40, () -> x.feed(""));
+        due("4 third", 60, () -> x.feed(""));
+        due("4 fourth", -1, () -> x.feed("a"));
         due("4 stays", 60, () -> x.count(3));
         due("4 head", 0, () -> x.see(10, 10));
         due("4 empty", 0, () -> x.count(3));
         due("4 the highest byte first", 20, () -> x.feed(0x61626364, 0x65666768, 0x696a6b6c, 0, 0));
         x.push(1);
         due("4 entry", 1, () -> x.entry(12));
-        due("4 means that head", 2, () -> see(x, "z", "abcdefghijkl"));
+        due("4 means that head", 2, () -> x.see("z", "abcdefghijkl"));
         due("4 leads", 1, () -> x.leads(2));
         due("4 bytes over 127", 20, () -> x.feed(0xFFFFFFFF, 0x80808080, 0, 0, 0));
         x.push(1);
@@ -125,54 +97,48 @@ public final class PromisesTest {
     }
 
     private static void promise5() {
-        GuideWords x = new GuideWords();
+        Book x = new Book();
         due("5 no bytes", -1, () -> x.entry(0));
         due("5 negative", ARGUMENT, () -> x.entry(-1));
         due("5 more than there are", ARGUMENT, () -> x.entry(1));
         for (String bad : new String[] {"a`", "a{", "A", "a b", "1", "abcdefghijklm"}) {
             x.push(3);
-            feed(x, bad);
+            x.feed(bad);
             due("5 no head " + bad, -1, () -> x.entry(bad.length()));
             due("5 pushed are gone", 0, () -> x.count(2));
             due("5 bytes are gone", 0, () -> x.count(3));
         }
-        feed(x, "abc");
+        x.feed("abc");
         x.push(3);
         due("5 over the tape", ARGUMENT, () -> x.entry(21));
         due("5 bytes stay when thrown", 20, () -> x.count(3));
         due("5 pushed stay when thrown", 1, () -> x.count(2));
         due("5 no bytes of some", -1, () -> x.entry(0));
         due("5 empty then", 0, () -> x.count(3) + x.count(2));
-        feed(x, "abc");
+        x.feed("abc");
         due("5 no senses", -2, () -> x.entry(3));
         due("5 bytes are gone then too", 0, () -> x.count(3));
-        feed(x, "a1");
+        x.feed("a1");
         due("5 neither", -1, () -> x.entry(2));
-        due("5 first", 0, () -> entry(x, "az", 1));
-        due("5 second", 1, () -> entry(x, "abcdefghijkl", 1, 2, 3, 4, 5, 6));
+        due("5 first", 0, () -> x.entry("az", 1));
+        due("5 second", 1, () -> x.entry("abcdefghijkl", 1, 2, 3, 4, 5, 6));
         due("5 there are two", 2, () -> x.count(1));
-        fill(x);
-        due("5 no room", -3, () -> entry(x, "zz", 2));
+        x.fill(150);
+        due("5 no room", -3, () -> x.entry("zz", 2));
         due("5 no room empties", 0, () -> x.count(2) + x.count(3));
-        due("5 no head ahead of no room", -1, () -> entry(x, "Z", 2));
-        due("5 no senses ahead of no room", -2, () -> entry(x, "z"));
+        due("5 no head ahead of no room", -1, () -> x.entry("Z", 2));
+        due("5 no senses ahead of no room", -2, () -> x.entry("z"));
         x.drop(7);
-        due("5 a dropped one makes no room", -3, () -> entry(x, "zz", 2));
+        due("5 a dropped one makes no room", -3, () -> x.entry("zz", 2));
         due("5 in all", 150, () -> x.count(1));
         due("5 there", 149, () -> x.count(0));
     }
 
-    private static void fill(GuideWords x) {
-        for (int k = x.count(1); k < 150; k++) {
-            entry(x, "" + (char) ('a' + k % 26), 1);
-        }
-    }
-
     private static void promise6() {
-        GuideWords x = new GuideWords();
+        Book x = new Book();
         due("6 empty", -1, () -> x.see(0, 0));
         due("6 more than there are", ARGUMENT, () -> x.see(1, 0));
-        feed(x, "abcdefghij");
+        x.feed("abcdefghij");
         due("6 negative n", ARGUMENT, () -> x.see(-1, 2));
         due("6 negative m", ARGUMENT, () -> x.see(2, -1));
         due("6 both", ARGUMENT, () -> x.see(11, 10));
@@ -183,45 +149,45 @@ public final class PromisesTest {
         due("6 the meant one is no head", -1, () -> x.see(5, 6));
         due("6 bytes are gone", 0, () -> x.count(3));
         due("6 pushed stay", 1, () -> x.count(2));
-        feed(x, "ab");
+        x.feed("ab");
         due("6 nothing meant", -1, () -> x.see(2, 0));
-        feed(x, "ab");
+        x.feed("ab");
         due("6 no head", -1, () -> x.see(0, 2));
-        due("6 see", 0, () -> see(x, "ab", "cd"));
+        due("6 see", 0, () -> x.see("ab", "cd"));
         due("6 pushed stay, too", 1, () -> x.count(2));
-        feed(x, "cd");
+        x.feed("cd");
         due("6 entry", 1, () -> x.entry(2));
         due("6 leads", 1, () -> x.leads(0));
         x.set();
         due("6 blocks", 2, () -> x.told(3));
         due("6 a line and those of letters", 9, () -> x.column(0, 3));
-        fill(x);
-        due("6 no room", -3, () -> see(x, "a", "b"));
+        x.fill(150);
+        due("6 no room", -3, () -> x.see("a", "b"));
         due("6 no room empties", 0, () -> x.count(3));
-        due("6 no head ahead of no room", -1, () -> see(x, "a", "B"));
+        due("6 no head ahead of no room", -1, () -> x.see("a", "B"));
     }
 
     private static void promise7() {
-        GuideWords x = new GuideWords();
-        due("7 none", INDEX, () -> x.drop(0) ? 1 : 0);
-        entry(x, "a", 1);
-        entry(x, "b", 1);
-        due("7 drop", 1, () -> x.drop(0) ? 1 : 0);
-        due("7 again", 0, () -> x.drop(0) ? 1 : 0);
-        due("7 negative", INDEX, () -> x.drop(-1) ? 1 : 0);
-        due("7 behind", INDEX, () -> x.drop(2) ? 1 : 0);
+        Book x = new Book();
+        due("7 none", INDEX, () -> x.drop(0));
+        x.entry("a", 1);
+        x.entry("b", 1);
+        due("7 drop", 1, () -> x.drop(0));
+        due("7 again", 0, () -> x.drop(0));
+        due("7 negative", INDEX, () -> x.drop(-1));
+        due("7 behind", INDEX, () -> x.drop(2));
         due("7 there", 1, () -> x.count(0));
-        due("7 its number is not given again", 2, () -> entry(x, "a", 1));
+        due("7 its number is not given again", 2, () -> x.entry("a", 1));
         due("7 order", 2, () -> x.order(0));
     }
 
     private static void promise8() {
-        GuideWords x = new GuideWords();
+        Book x = new Book();
         String[] heads = {"b", "ab", "a", "abc", "b", "aa", "a", "zzzzzzzzzzzz", "z", "ba"};
         for (String head : heads) {
-            entry(x, head, 1);
+            x.entry(head, 1);
         }
-        see(x, "ab", "q");
+        x.see("ab", "q");
         int[] ordered = {2, 6, 5, 1, 10, 3, 0, 4, 9, 8, 7};
         for (int k = 0; k < ordered.length; k++) {
             int n = k;
@@ -236,17 +202,17 @@ public final class PromisesTest {
     }
 
     private static void promise9() {
-        GuideWords x = new GuideWords();
+        Book x = new Book();
         due("9 none", INDEX, () -> x.leads(0));
-        see(x, "a", "b");
+        x.see("a", "b");
         due("9 no such head", -1, () -> x.leads(0));
-        see(x, "b", "a");
+        x.see("b", "a");
         due("9 ring", -2, () -> x.leads(0));
-        see(x, "c", "c");
+        x.see("c", "c");
         due("9 ring of one", -2, () -> x.leads(2));
-        see(x, "d", "a");
+        x.see("d", "a");
         due("9 into a ring", -2, () -> x.leads(3));
-        entry(x, "b", 1);
+        x.entry("b", 1);
         due("9 the first of alike heads", -2, () -> x.leads(0));
         x.drop(1);
         due("9 now the other one", 4, () -> x.leads(0));
@@ -257,34 +223,30 @@ public final class PromisesTest {
         due("9 to a dropped one", -1, () -> x.leads(3));
         due("9 negative", INDEX, () -> x.leads(-1));
         due("9 behind", INDEX, () -> x.leads(5));
-        see(x, "bx", "a");
+        x.see("bx", "a");
         due("9 a head that begins another one", -1, () -> x.leads(0));
-        GuideWords y = new GuideWords();
+        Book y = new Book();
         for (int k = 0; k < 149; k++) {
-            see(y, name(k), name(k + 1));
+            y.see(Book.name(k), Book.name(k + 1));
         }
         due("9 a long way to nowhere", -1, () -> y.leads(0));
-        see(y, name(149), name(0));
+        y.see(Book.name(149), Book.name(0));
         due("9 a long ring", -2, () -> y.leads(77));
-        GuideWords z = new GuideWords();
+        Book z = new Book();
         for (int k = 0; k < 149; k++) {
-            see(z, name(k), name(k + 1));
+            z.see(Book.name(k), Book.name(k + 1));
         }
-        entry(z, name(149), 3);
+        z.entry(Book.name(149), 3);
         due("9 a long way", 149, () -> z.leads(0));
     }
 
-    private static String name(int k) {
-        return "" + (char) ('a' + k / 26) + (char) ('a' + k % 26);
-    }
-
     private static void promise10() {
-        GuideWords x = new GuideWords();
+        Book x = new Book();
         x.set(2, 0);
         x.set(0, 4);
-        entry(x, "a", 1, 4);
+        x.entry("a", 1, 4);
         due("10 the head may not stand alone", -1, x::set);
-        entry(x, "b", 2, 4);
+        x.entry("b", 2, 4);
         x.drop(0);
         due("10 two lines may: 2 * 2 and split", 14, x::set);
         x.set(1, 1);
@@ -301,48 +263,48 @@ public final class PromisesTest {
         due("10 without blocks", -1, x::set);
         due("10 what was set stays so", 2, () -> x.told(3));
 
-        GuideWords y = new GuideWords();
+        Book y = new Book();
         y.set(2, 3);
         y.set(0, 4);
-        entry(y, "a", 1, 2);
+        y.entry("a", 1, 2);
         due("10 letter's lines don't count for a break", -1, y::set);
 
-        GuideWords z = new GuideWords();
+        Book z = new Book();
         z.set(2, 0);
         z.set(0, 4);
-        entry(z, "a", 2, 1, 4);
+        z.entry("a", 2, 1, 4);
         due("10 a sense that is not the first may have one line", 11, z::set);
         due("10 most blocks in the first column", 2, () -> z.column(0, 2));
     }
 
     /** The same cost: fewest columns, then the most blocks ahead. */
     private static void promise10ofEquals() {
-        GuideWords x = new GuideWords();
+        Book x = new Book();
         x.set(2, 0);
         x.set(0, 4);
         x.set(1, 4);
-        entry(x, "a", 3);
-        entry(x, "b", 1);
-        entry(x, "c", 3);
-        entry(x, "d", 4);
+        x.entry("a", 3);
+        x.entry("b", 1);
+        x.entry("c", 3);
+        x.entry("d", 4);
         due("10 a b, c: or a, b c", 1, x::set);
         due("10 columns", 3, () -> x.told(2));
         due("10 the first one has more", 2, () -> x.column(0, 2));
 
-        GuideWords y = new GuideWords();
+        Book y = new Book();
         y.set(2, 0);
         y.set(0, 4);
-        entry(y, "a", 4);
-        entry(y, "b", 2);
-        entry(y, "c", 2);
+        y.entry("a", 4);
+        y.entry("b", 2);
+        y.entry("c", 2);
         due("10 fewest columns", 0, y::set);
         due("10 two of them", 2, () -> y.told(2));
 
-        GuideWords z = new GuideWords();
+        Book z = new Book();
         z.set(2, 0);
         z.set(0, 6);
         for (int k = 0; k < 4; k++) {
-            entry(z, "" + (char) ('a' + k), 2);
+            z.entry("" + (char) ('a' + k), 2);
         }
         // The last column costs nothing, so the first may be full.
         due("10 the last column is free", 0, z::set);
@@ -350,13 +312,13 @@ public final class PromisesTest {
     }
 
     private static void promise11() {
-        GuideWords x = new GuideWords();
+        Book x = new Book();
         due("11 no such", ARGUMENT, () -> x.told(5));
         due("11 negative", ARGUMENT, () -> x.told(-1));
         x.set(0, 4);
         x.set(2, 0);
         for (int k = 0; k < 5; k++) {
-            entry(x, "" + (char) ('b' + k), 4);
+            x.entry("" + (char) ('b' + k), 4);
         }
         due("11 set", 0, x::set);
         due("11 pages", 3, () -> x.told(1));
@@ -365,11 +327,11 @@ public final class PromisesTest {
         due("11 all changed", 3, () -> x.told(4));
         x.set();
         due("11 none changed", 0, () -> x.told(4));
-        entry(x, "g", 4);
+        x.entry("g", 4);
         due("11 not before it is set", 0, () -> x.told(4));
         x.set();
         due("11 the last page", 1, () -> x.told(4));
-        entry(x, "h", 4);
+        x.entry("h", 4);
         x.set();
         due("11 a new page", 1, () -> x.told(4));
         x.drop(2);
@@ -386,11 +348,11 @@ public final class PromisesTest {
         x.set();
         due("11 alike with other lines", 0, () -> x.told(4));
         x.drop(0);
-        int alike = entry(x, "b", 4);
+        int alike = x.entry("b", 4);
         x.set();
         due("11 another entry with the same head", 1, () -> x.told(4));
         due("11 is there", alike, () -> x.column(0, 0));
-        entry(x, "i", 20);
+        x.entry("i", 20);
         x.set(0, 19);
         due("11 no setting", -1, x::set);
         due("11 changed stays", 1, () -> x.told(4));
@@ -398,10 +360,10 @@ public final class PromisesTest {
     }
 
     private static void promise12() {
-        GuideWords x = new GuideWords();
+        Book x = new Book();
         x.set(0, 6);
-        entry(x, "b", 4, 3, 3);
-        entry(x, "a", 4);
+        x.entry("b", 4, 3, 3);
+        x.entry("a", 4);
         // Column 1 is the last of its page, so the split costs a turn, too.
         due("12 set", 30, x::set);
         int[][] columns = {{1, 0, 1, 6}, {0, 0, 1, 6}, {0, 1, 2, 6}};
@@ -424,9 +386,9 @@ public final class PromisesTest {
     }
 
     private static void promise13() {
-        GuideWords x = new GuideWords();
+        Book x = new Book();
         due("13 none", INDEX, () -> x.where(0, 0));
-        entry(x, "b", 4, 3, 3);
+        x.entry("b", 4, 3, 3);
         due("13 nothing set", -1, () -> x.where(0, 0));
         x.set(0, 6);
         x.set();
@@ -439,7 +401,7 @@ public final class PromisesTest {
         due("13 far", -1, () -> x.where(0, Integer.MAX_VALUE));
         due("13 no entry", INDEX, () -> x.where(1, 0));
         due("13 negative entry", INDEX, () -> x.where(-1, 0));
-        entry(x, "a", 1);
+        x.entry("a", 1);
         due("13 not yet", -1, () -> x.where(1, 0));
         due("13 not the next entry's sense", -1, () -> x.where(0, 6));
         x.drop(0);
@@ -450,15 +412,15 @@ public final class PromisesTest {
     }
 
     private static void promise14() {
-        GuideWords x = new GuideWords();
+        Book x = new Book();
         x.set(0, 4);
         x.set(1, 1);
         x.set(2, 0);
         x.set(3, 0);
         x.set(4, 0);
-        entry(x, "a", 2, 2, 4, 2);
-        entry(x, "b", 1);
-        entry(x, "c", 1);
+        x.entry("a", 2, 2, 4, 2);
+        x.entry("b", 1);
+        x.entry("c", 1);
         due("14 set", 0, x::set);
         due("14 pages", 3, () -> x.told(1));
         due("14 first of page 0", 0, () -> x.guide(0, 0));
@@ -480,15 +442,15 @@ public final class PromisesTest {
     }
 
     private static void promise15() {
-        GuideWords x = new GuideWords();
+        Book x = new Book();
         due("15 below", ARGUMENT, () -> x.thumb(-1, 10));
         due("15 above", ARGUMENT, () -> x.thumb(26, 10));
         due("15 no length", ARGUMENT, () -> x.thumb(0, 0));
         due("15 too long", ARGUMENT, () -> x.thumb(0, 10001));
         due("15 none", -1, () -> x.thumb(0, 10000));
-        entry(x, "z", 3);
-        entry(x, "b", 1, 2);
-        see(x, "by", "z");
+        x.entry("z", 3);
+        x.entry("b", 1, 2);
+        x.see("by", "z");
         // b: 2 + 1 + 2 + 1 = 6; z: 2 + 3 = 5
         due("15 b", 2727, () -> x.thumb(1, 10000));
         due("15 z: the half is not cut", 7727, () -> x.thumb(25, 10000));
@@ -504,46 +466,46 @@ public final class PromisesTest {
     }
 
     private static void promise16() {
-        GuideWords x = new GuideWords();
+        Book x = new Book();
         x.set(2, 0);
-        entry(x, "c", 4);
+        x.entry("c", 4);
         due("16 one letter", -1, x::volume);
-        entry(x, "x", 20);
+        x.entry("x", 20);
         due("16 the first one is none", 23, x::volume);
-        entry(x, "d", 8);
-        entry(x, "e", 8);
+        x.entry("d", 8);
+        x.entry("e", 8);
         // ahead of d 4 of 40, of e 12, of x 20
         due("16 in half", 23, x::volume);
-        entry(x, "y", 8);
+        x.entry("y", 8);
         // of 48: e 12 against 36, x 20 against 28, y 40 against 8
         due("16 nearest", 23, x::volume);
-        entry(x, "z", 8);
-        entry(x, "z", 4);
+        x.entry("z", 8);
+        x.entry("z", 4);
         // of 60: x 20 against 40, y 40 against 20
         due("16 of equals the first", 23, x::volume);
         x.drop(1);
         // of 40: e 12 against 28, y 20 against 20
         due("16 dropped", 24, x::volume);
-        GuideWords y = new GuideWords();
+        Book y = new Book();
         y.set(2, 0);
-        entry(y, "a", 7);
-        entry(y, "b", 1);
-        entry(y, "c", 1);
-        entry(y, "d", 5);
+        y.entry("a", 7);
+        y.entry("b", 1);
+        y.entry("c", 1);
+        y.entry("d", 5);
         due("16 of 14: b 7 against 7", 1, y::volume);
         y.set(2, 3);
         due("16 of 26: b 10 against 16, c 14 against 12", 2, y::volume);
     }
 
     private static void promise17() {
-        GuideWords x = new GuideWords();
-        entry(x, "a", 1);
-        see(x, "b", "a");
-        entry(x, "c", 1);
+        Book x = new Book();
+        x.entry("a", 1);
+        x.see("b", "a");
+        x.entry("c", 1);
         x.drop(1);
         x.push(1);
         x.push(1);
-        feed(x, "");
+        x.feed("");
         due("17 there", 2, () -> x.count(0));
         due("17 in all", 3, () -> x.count(1));
         due("17 pushed", 2, () -> x.count(2));

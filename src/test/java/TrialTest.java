@@ -3,14 +3,15 @@ import java.util.HashSet;
 import java.util.List;
 import java.util.Random;
 import java.util.Set;
+import java.util.function.IntSupplier;
 
 /**
  * Runs of calls by chance (with told seeds) on GuideWords and on a plain model that tries every
  * setting there is: both answer the same, and no other exception is ever thrown.
  */
 public final class TrialTest {
-    private static final int INDEX = 1_000_001;
-    private static final int ARGUMENT = 1_000_002;
+    private static final int INDEX = Answer.INDEX;
+    private static final int ARGUMENT = Answer.ARGUMENT;
 
     /** The document word by word, with texts and lists, and without a thought of speed. */
     private static final class Model {
@@ -386,22 +387,11 @@ public final class TrialTest {
         }
     }
 
-    private interface Call {
-        int answer();
-    }
-
     private static int wrong = 0;
     private static final StringBuilder LOG = new StringBuilder();
 
-    private static void same(String call, int want, Call real) {
-        int got;
-        try {
-            got = real.answer();
-        } catch (IndexOutOfBoundsException e) {
-            got = e.getClass() == IndexOutOfBoundsException.class ? INDEX : 0xDEAD;
-        } catch (IllegalArgumentException e) {
-            got = e.getClass() == IllegalArgumentException.class ? ARGUMENT : 0xDEAD;
-        }
+    private static void same(String call, int want, IntSupplier real) {
+        int got = Answer.of(real);
         LOG.append(call).append(" = ").append(want).append('\n');
         if (got != want) {
             wrong++;
