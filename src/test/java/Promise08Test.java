@@ -35,6 +35,15 @@ public final class Promise08Test extends Checks {
         due("2 1 0", with("zz", "za", "yzzzzzzzzzzz").inOrder());
     }
 
+    static void eachLetterOutweighsAllBehindIt() {
+        for (int place = 0; place < 11; place++) {
+            String same = "aaaaaaaaaaaa".substring(0, place);
+            String high = same + "b" + "aaaaaaaaaaa".substring(place);
+            String low = same + "a" + "ccccccccccc".substring(place);
+            due("1 0", with(high, low).inOrder());
+        }
+    }
+
     static void theTwelfthLetterDecides() {
         due("2 1 0", with("aaaaaaaaaaab", "aaaaaaaaaaaa", "aaaaaaaaaaa").inOrder());
         due("1 0", with("zzzzzzzzzzzz", "zzzzzzzzzzzy").inOrder());

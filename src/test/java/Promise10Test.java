@@ -34,6 +34,16 @@ public final class Promise10Test extends Checks {
         due(NONE, b.where(0, 0));
     }
 
+    static void noneWhateverTheColumnsOnAPage() {
+        for (int columns = 1; columns <= 4; columns++) {
+            Book b = Book.of(4, columns, 0, 0, 0);
+            b.entry("a", 4);
+            b.entry("b", 5);
+            due(NONE, b.set());
+            due("told 0 0 0 0 0", b.setting());
+        }
+    }
+
     static void noneLaterLeavesWhatWasSet() {
         Book b = standing();
         String before = b.setting();

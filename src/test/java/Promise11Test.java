@@ -80,6 +80,30 @@ public final class Promise11Test extends Checks {
         due(0, changed(b));
     }
 
+    static void behindTheSameSettingOfManyBlocksNoneIs() {
+        Book b = withBlocksTogether();
+        due("4 2", b.columns());
+        due(0, changed(b));
+    }
+
+    static void anotherLastBlockOfAColumn() {
+        Book b = withBlocksTogether();
+        b.drop(3);
+        b.see("d", "a");
+        due(1, changed(b));
+        due("4 2", b.columns());
+    }
+
+    /** Two pages of a column each, with four lines and with two. */
+    private static Book withBlocksTogether() {
+        Book b = Book.of(4, 1, 0, 10, 20);
+        for (int k = 0; k < 6; k++) {
+            b.see("" + (char) ('a' + k), "a");
+        }
+        due(0, b.set());
+        return b;
+    }
+
     static void aLateEntryOnTheLastPage() {
         Book b = withColumns(5);
         b.entry("z", 4);

@@ -28,6 +28,15 @@ public final class Promise13Test extends Checks {
         due(NONE, b.where(0, LEAST));
     }
 
+    static void aSenseBelowTheFirstIsNotTheLastOfTheEntryAhead() {
+        Book b = Book.of(60, 1, 0, 0, 0);
+        b.entry("a", 1, 1, 1, 1, 1, 1);
+        b.entry("b", 1);
+        b.set();
+        due(NONE, b.where(1, -1));
+        due(NONE, b.where(1, -6));
+    }
+
     static void aSenseBehindTheLastIsNotThere() {
         Book b = standing();
         due(NONE, b.where(0, 3));

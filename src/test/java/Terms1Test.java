@@ -93,6 +93,16 @@ public final class Terms1Test extends Checks {
         due(25, b.volume());
     }
 
+    static void lettersAreTheFirstOnesOfTheLongestHeadsToo() {
+        Book b = Book.of(20, 2, 0, 10, 20);
+        b.entry("abbbbbbbbbbb", 1);
+        b.entry("bccccccccccc", 1);
+        due(2500, b.thumb(0, 10000));
+        due(7500, b.thumb(1, 10000));
+        due(NONE, b.thumb(2, 10000));
+        due(1, b.volume());
+    }
+
     public static void main(String[] args) {
         run(Terms1Test.class);
     }

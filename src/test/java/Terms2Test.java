@@ -215,6 +215,16 @@ public final class Terms2Test extends Checks {
         }
     }
 
+    static void everyPageHasItsTurn() {
+        int[] costs = {707, 407, 207, 207};
+        for (int columns = 1; columns <= 4; columns++) {
+            Book b = Book.of(4, columns, 0, 1, 100);
+            b.entry("a", 4, 4, 4, 4, 4);
+            b.entry("b", 4, 4, 4, 4);
+            isSet(b, costs[columns - 1], "1 1 1 1 1 1 1 1 1");
+        }
+    }
+
     static void theLastColumnOfAllCostsNoTurn() {
         int[] costs = {303, 103, 103, 3};
         for (int columns = 1; columns <= 4; columns++) {
@@ -267,6 +277,26 @@ public final class Terms2Test extends Checks {
 
     static void noTurnIsWeighedInsideAPage() {
         isSet(splitOrNot(2, 1000), 0, "3 1");
+    }
+
+    /** Six columns and a turn, or gaps of 8 and a split more, so that the page ends behind a. */
+    private static Book turnOrGaps(int turn) {
+        Book b = Book.of(4, 4, 0, 1, turn);
+        b.entry("a", 2, 2, 2, 2, 2, 2);
+        b.entry("b", 2, 2, 2, 2, 2, 2);
+        return b;
+    }
+
+    static void aTurnThatIsCheaperThanGaps() {
+        isSet(turnOrGaps(8), 12, "2 2 2 2 2 2");
+    }
+
+    static void gapsThatAreCheaperThanATurn() {
+        isSet(turnOrGaps(10), 13, "2 2 1 1 2 2 2");
+    }
+
+    static void aTurnAndGapsThatCostTheSame() {
+        isSet(turnOrGaps(9), 13, "2 2 2 2 2 2");
     }
 
     private static Book twoColumnsOrThree(int split) {
