@@ -105,6 +105,17 @@ public final class Promise10Test extends Checks {
         due(NONE, b.where(0, 0));
     }
 
+    static void aDroppedLastBlockIsNotSetAgain() {
+        Book b = Book.of(4, 2, 0, 10, 20);
+        b.entry("a", 2);
+        b.entry("b", 2);
+        b.set();
+        b.drop(1);
+        due(0, b.set());
+        due("1", b.columns());
+        due(2, b.column(0, 3));
+    }
+
     static void all150AreSet() {
         Book b = Book.of(4, 4, 0, 10, 20);
         b.fill(150);

@@ -119,6 +119,20 @@ public final class Promise13Test extends Checks {
         due(0, b.where(1, 0));
     }
 
+    static void aDroppedLastEntryIsGoneAlsoBehindManySettings() {
+        Book b = standing();
+        b.entry("c", 4);
+        for (int k = 0; k < 3; k++) {
+            b.set();
+            due(3, b.where(3, 0));
+        }
+        b.drop(3);
+        for (int k = 0; k < 3; k++) {
+            b.set();
+            due(NONE, b.where(3, 0));
+        }
+    }
+
     public static void main(String[] args) {
         run(Promise13Test.class);
     }
