@@ -51,7 +51,7 @@ public final class GuideWords {
         pushed = new int[MOST_SENSES];
         tape = new Tape();
         lexicon = new Lexicon();
-        typesetter = new Typesetter(values);
+        typesetter = new Typesetter();
         letterLines = new int[ALPHABET];
         standing = new Setting();
         draft = new Setting();
@@ -140,7 +140,7 @@ public final class GuideWords {
     }
 
     public int set() {
-        if (!typesetter.compose(lexicon, draft)) {
+        if (!typesetter.compose(values, lexicon, draft)) {
             return NONE;
         }
         Setting before = standing;
@@ -476,15 +476,16 @@ public final class GuideWords {
         private final long[] least;
         private int blocks;
 
-        Typesetter(int[] values) {
-            this.values = values;
+        Typesetter() {
+            values = new int[VALUES];
             lines = new int[MOST_BLOCKS];
             breaks = new int[MOST_BLOCKS];
             least = new long[MOST_BLOCKS * MOST_COLUMNS_ON_PAGE];
         }
 
         /** Puts the best setting into the draft; false if there is none. */
-        boolean compose(Lexicon lexicon, Setting draft) {
+        boolean compose(int[] chosen, Lexicon lexicon, Setting draft) {
+            System.arraycopy(chosen, 0, values, 0, VALUES);
             gather(lexicon, draft);
             if (blocks == 0) {
                 return false;

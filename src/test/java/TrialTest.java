@@ -1,13 +1,15 @@
 import java.util.ArrayList;
 import java.util.HashSet;
 import java.util.List;
+import java.util.Objects;
 import java.util.Random;
 import java.util.Set;
 import java.util.function.IntSupplier;
 
 /**
- * Runs of calls by chance (with told seeds) on GuideWords and on a plain model that tries every
- * setting there is: both answer the same, and no other exception is ever thrown.
+ * Runs of calls by chance (with told seeds) on GuideWords and on a plain model: both answer the
+ * same, and no other exception is ever thrown. Of few blocks the model tries every setting there
+ * is; of many it finds the best one from the end on, which must be the same where both are found.
  */
 public final class TrialTest {
     private static final int INDEX = Answer.INDEX;
@@ -29,6 +31,32 @@ public final class TrialTest {
             boolean mayBreak;
             boolean isLast;
         }
+
+        /** The best columns from some block on; the rule of the document compares them one by one. */
+        static final class Part {
+            int cost;
+            int columns;
+            int blocks;
+            Part behind;
+
+            boolean isBetterThan(Part other) {
+                if (other == null || cost != other.cost) {
+                    return other == null || cost < other.cost;
+                }
+                if (columns != other.columns) {
+                    return columns < other.columns;
+                }
+                Part mine = this;
+                while (mine != null && mine.blocks == other.blocks) {
+                    mine = mine.behind;
+                    other = other.behind;
+                }
+                return mine != null && mine.blocks > other.blocks;
+            }
+        }
+
+        /** So many blocks at most are tried in every way there is. */
+        static final int FEW = 11;
 
         int[] values = {20, 2, 2, 10, 20};
         List<Entry> entries = new ArrayList<>();
@@ -149,13 +177,14 @@ public final class TrialTest {
                 return INDEX;
             }
             Set<Integer> passed = new HashSet<>();
+            List<Integer> numbers = ordered();
             int at = entry;
             while (entries.get(at).meant != null) {
                 if (!passed.add(at)) {
                     return -2;
                 }
                 int next = -1;
-                for (int k : ordered()) {
+                for (int k : numbers) {
                     if (next < 0 && entries.get(k).head.equals(entries.get(at).meant)) {
                         next = k;
                     }
@@ -245,14 +274,67 @@ public final class TrialTest {
             return false;
         }
 
-        int set() {
-            List<Block> all = blocks();
+        List<List<Block>> bestOfEvery(List<Block> all) {
             List<List<Block>> best = null;
             for (int bits = 0; !all.isEmpty() && bits < 1 << (all.size() - 1); bits++) {
                 List<List<Block>> setting = cut(all, bits);
                 if (setting != null && (best == null || isBetter(setting, best))) {
                     best = setting;
                 }
+            }
+            return best;
+        }
+
+        Part bestPart(List<Block> all, int first, int place, Part[][] found) {
+            int next = (place + 1) % values[1];
+            Part best = null;
+            int lines = 0;
+            for (int last = first; last < all.size(); last++) {
+                Block block = all.get(last);
+                lines += block.lines;
+                boolean isEnd = last == all.size() - 1;
+                if (lines > values[0] || !isEnd && (!block.mayBreak || found[last + 1][next] == null)) {
+                    continue;
+                }
+                Part part = new Part();
+                part.blocks = last - first + 1;
+                part.columns = 1;
+                if (!isEnd) {
+                    part.behind = found[last + 1][next];
+                    part.columns += part.behind.columns;
+                    part.cost = part.behind.cost + (values[0] - lines) * (values[0] - lines);
+                    part.cost += block.isLast ? 0 : values[3];
+                    part.cost += !block.isLast && place == values[1] - 1 ? values[4] : 0;
+                }
+                best = part.isBetterThan(best) ? part : best;
+            }
+            return best;
+        }
+
+        List<List<Block>> bestByParts(List<Block> all) {
+            Part[][] found = new Part[all.size() + 1][values[1]];
+            for (int first = all.size() - 1; first >= 0; first--) {
+                for (int place = 0; place < values[1]; place++) {
+                    found[first][place] = bestPart(all, first, place, found);
+                }
+            }
+            if (found[0][0] == null) {
+                return null;
+            }
+            List<List<Block>> setting = new ArrayList<>();
+            int first = 0;
+            for (Part part = found[0][0]; part != null; part = part.behind) {
+                setting.add(all.subList(first, first + part.blocks));
+                first += part.blocks;
+            }
+            return setting;
+        }
+
+        int set() {
+            List<Block> all = blocks();
+            List<List<Block>> best = bestByParts(all);
+            if (all.size() <= FEW && !Objects.equals(best, bestOfEvery(all))) {
+                throw new AssertionError("the model finds two best settings");
             }
             if (best == null) {
                 return -1;
@@ -406,12 +488,26 @@ public final class TrialTest {
     private final GuideWords real = new GuideWords();
     private final Model model = new Model();
     private final int letters;
+    private final int mostLines;
+    private final int heights;
     private final int mostBlocks;
 
-    private TrialTest(long seed, int mostBlocks) {
+    private TrialTest(long seed, int mostLetters, int mostLines, int heights, int mostBlocks) {
         chance = new Random(seed);
-        letters = 1 + chance.nextInt(5);
+        letters = 1 + chance.nextInt(mostLetters);
+        this.mostLines = mostLines;
+        this.heights = heights;
         this.mostBlocks = mostBlocks;
+    }
+
+    /** Of so few blocks that all their settings are tried. */
+    private static TrialTest small(long seed) {
+        return new TrialTest(seed, 5, 20, 14, Model.FEW);
+    }
+
+    /** Of any number of blocks; where all are low, they can be set in low columns too. */
+    private static TrialTest large(int seed) {
+        return new TrialTest(seed, 26, 1 + seed % 20, 57, Integer.MAX_VALUE);
     }
 
     private int below(int bound) {
@@ -452,7 +548,7 @@ public final class TrialTest {
     private void pushSome() {
         int senses = below(4) == 0 ? below(8) : 1 + below(3);
         for (int k = 0; k < senses; k++) {
-            int lines = below(3) == 0 ? near(21) : 1 + below(4);
+            int lines = below(3) == 0 ? near(mostLines + 1) : 1 + below(Math.min(mostLines, 4));
             same("push " + lines, model.push(lines), () -> real.push(lines));
         }
     }
@@ -476,7 +572,7 @@ public final class TrialTest {
 
     private void change() {
         int what = near(5);
-        int v = what == 0 ? 4 + below(14) : what == 1 ? 1 + below(4) : what == 2 ? near(4) : near(40);
+        int v = what == 0 ? 4 + below(heights) : what == 1 ? 1 + below(4) : what == 2 ? near(4) : near(40);
         same("set " + what + " " + v, model.set(what, v), () -> real.set(what, v));
     }
 
@@ -522,8 +618,11 @@ public final class TrialTest {
         same("volume", model.volume(), () -> real.volume());
     }
 
-    private void run(int steps) {
+    private void run(int entries, int steps) {
         LOG.setLength(0);
+        for (int k = 0; k < entries; k++) {
+            addEntry();
+        }
         for (int k = 0; k < steps && wrong == 0; k++) {
             int kind = below(12);
             if (kind < 3) {
@@ -546,11 +645,14 @@ public final class TrialTest {
     public static void main(String[] args) {
         int runs = args.length > 0 ? Integer.parseInt(args[0]) : 1500;
         for (int seed = 0; seed < runs && wrong == 0; seed++) {
-            new TrialTest(seed, 11).run(40);
+            small(seed).run(0, 40);
         }
-        // Long ones fill all 150 entries; few of their settings are small enough to try.
+        // Long ones fill all 150 entries.
         for (int seed = 0; seed < 10 && wrong == 0; seed++) {
-            new TrialTest(-1 - seed, 11).run(700);
+            small(-1 - seed).run(0, 700);
+        }
+        for (int seed = 0; seed < runs / 25 && wrong == 0; seed++) {
+            large(seed).run(seed % 130, 100);
         }
         System.out.println(wrong == 0 ? "all trials agree" : wrong + " answers are not as due");
         if (wrong != 0) {
